@@ -945,7 +945,7 @@ public final class FishCounter {
         int firstError() {
             startReading();
             // No text has more items than signs.
-            for (int items = 0; items <= MOST_TEXT; items++) {
+            for (int items = 0; items < MOST_TEXT; items++) {
                 if (!readItem()) {
                     return position;
                 }

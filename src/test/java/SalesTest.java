@@ -8,14 +8,18 @@ public final class SalesTest {
         orderServesTheLeastFreshFirst();
         orderTakesTheLowestNumberOfSeveral();
         orderSellsOnlyWhatFits();
+        orderSellsFromAllTrays();
         orderTakesMoneyForEachLotByItself();
         orderRefuses();
         orderOfNothingSavesAState();
         passMakesFishLessFresh();
         passMeltsAfterTheFish();
+        passOfSixteenLots();
         passEndsInTheHourTen();
         closeThrowsAwayWhatIsBelowTheLimit();
         closePutsTraysIntoTheIciestBoxes();
+        closeTakesTheLowestOfSeveralBoxes();
+        closeOfSixteenLots();
         closeGoesOnToTheNextDay();
         closeStopsInTheLastDay();
         CHECK.finish();
@@ -86,6 +90,20 @@ public final class SalesTest {
         shop.setCut(0, 50);
         CHECK.due("the price is that of the hour", shop.order(0, 4, 0, 400), 4);
         CHECK.due("taken: 0, then 6 and 1", shop.count(8), 0 + 6 + 1);
+    }
+
+    private static void orderSellsFromAllTrays() {
+        FishCounter shop = new FishCounter();
+        for (int i = 0; i < 5; i++) {
+            shop.deliver(3, 100, 40 + i, i);
+            shop.toTray(i + 1, i);
+        }
+        CHECK.due("order(3, 450, 0, 9999)", shop.order(3, 450, 0, 9999), 450);
+        CHECK.due("lots", shop.count(2), 1);
+        CHECK.due("lot(5, 1)", shop.lot(5, 1), 50);
+        CHECK.due("undo()", shop.undo(), 5);
+        CHECK.due("order(3, 501, 0, 9999)", shop.order(3, 501, 0, 9999), 500);
+        CHECK.due("lots", shop.count(2), 0);
     }
 
     private static void orderTakesMoneyForEachLotByItself() {
@@ -179,6 +197,17 @@ public final class SalesTest {
         CHECK.due("lot(2, 2)", shop.lot(2, 2), 87);
     }
 
+    private static void passOfSixteenLots() {
+        FishCounter shop = new FishCounter();
+        for (int i = 0; i < 16; i++) {
+            shop.deliver(0, 10, 90 - i, i / 3);
+        }
+        CHECK.due("pass()", shop.pass(), 1);
+        for (int i = 0; i < 16; i++) {
+            CHECK.due("lot(.., 2)", shop.lot(i + 1, 2), 84 - i);
+        }
+    }
+
     private static void passEndsInTheHourTen() {
         FishCounter shop = new FishCounter();
         for (int hour = 1; hour <= 10; hour++) {
@@ -231,6 +260,39 @@ public final class SalesTest {
         CHECK.due("tray(1, 0)", shop.tray(1, 0), 0);
         CHECK.due("box(3, 0)", shop.box(3, 0), 700);
         CHECK.due("lot(1, 2), as fresh as before", shop.lot(1, 2), 50);
+    }
+
+    private static void closeTakesTheLowestOfSeveralBoxes() {
+        FishCounter shop = new FishCounter();
+        shop.deliver(0, 10, 50, 5);
+        shop.toTray(1, 2);
+        CHECK.due("close()", shop.close(), 0);
+        CHECK.due("lot(1, 3), all without ice", shop.lot(1, 3), 0);
+        shop.toTray(1, 2);
+        shop.iceBox(1, 1);
+        shop.iceBox(5, 1);
+        CHECK.due("close()", shop.close(), 0);
+        CHECK.due("lot(1, 3), two with as much ice", shop.lot(1, 3), 1);
+    }
+
+    private static void closeOfSixteenLots() {
+        FishCounter shop = new FishCounter();
+        for (int i = 0; i < 16; i++) {
+            shop.deliver(0, 10, 50, i / 3);
+        }
+        for (int tray = 0; tray < 5; tray++) {
+            shop.toTray(16 - 3 * tray, tray);
+        }
+        CHECK.due("close(), none is thrown away", shop.close(), 0);
+        CHECK.due("lots", shop.count(2), 16);
+        CHECK.due("lot(16, 3), from tray 0", shop.lot(16, 3), 1);
+        CHECK.due("lot(13, 3), from tray 1", shop.lot(13, 3), 2);
+        CHECK.due("lot(10, 3), from tray 2", shop.lot(10, 3), 3);
+        CHECK.due("lot(7, 3), from tray 3", shop.lot(7, 3), 4);
+        CHECK.due("lot(4, 3), from tray 4", shop.lot(4, 3), 5);
+        for (int box = 0; box < 6; box++) {
+            CHECK.due("box(" + box + ", 1)", shop.box(box, 1), box == 5 ? 1 : 3);
+        }
     }
 
     private static void closeGoesOnToTheNextDay() {

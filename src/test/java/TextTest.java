@@ -11,6 +11,7 @@ public final class TextTest {
         textIsNoPartOfTheState();
         deliveriesHaveNoError();
         unfinishedTextsEndTooEarly();
+        clearedSignsAreNotRead();
         errorsAreFoundWhereTheyAre();
         deliverAllTakesTheLots();
         deliverAllStopsAtAFullBox();
@@ -93,7 +94,36 @@ public final class TextTest {
             String part = text.substring(0, length);
             errorOf(part, part.endsWith("@5") ? -6 : length);
         }
-        errorOf("0:1/0@0;0:1/0@0;0:1/0@0;0:1/0@0;0:1/0@0;0:1/0@0;0:1/0@0;0:1/0@0;0:1/0@0;0:20/10@", 80);
+        for (String tail : new String[] {"", "0", "0:", "0:5", "0:20000", "0:200/", "0:200/10", "0:20/10@"}) {
+            errorOf(fullText(tail), 80);
+        }
+        errorOf(fullText("0:20/0@5"), -6);
+        errorOf(fullText("0:20/0@6"), 79);
+    }
+
+    /** Nine items and the tail, with so many digits that it has 80 characters. */
+    private static String fullText(String tail) {
+        StringBuilder text = new StringBuilder();
+        int spare = 80 - 9 * 8 - tail.length();
+        for (int item = 0; item < 9; item++) {
+            int more = Math.min(4, spare);
+            text.append("0:1").append("0".repeat(more)).append("/0@0;");
+            spare -= more;
+        }
+        return text.append(tail).toString();
+    }
+
+    private static void clearedSignsAreNotRead() {
+        FishCounter shop = new FishCounter();
+        typeText(shop, "0:5/9@1;1:6/8@2");
+        for (String part : new String[] {"0", "0:", "0:5", "0:5/", "0:5/9", "0:5/9@", "0:5/9@1;"}) {
+            typeText(shop, part);
+            CHECK.due("syntaxError() of " + part, shop.syntaxError(), part.length());
+            CHECK.due("deliverAll() of " + part, shop.deliverAll(), -5);
+        }
+        typeText(shop, "0:5/9@1");
+        CHECK.due("deliverAll()", shop.deliverAll(), 1);
+        CHECK.due("lots", shop.count(2), 1);
     }
 
     private static void errorsAreFoundWhereTheyAre() {

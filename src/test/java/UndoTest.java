@@ -4,6 +4,7 @@ public final class UndoTest {
 
     public static void main(String[] args) {
         undoOfEachCall();
+        undoOfEachSetting();
         undoKeepsSixStates();
         undoGoesOnAfterNewCalls();
         refusedCallsSaveNothing();
@@ -60,6 +61,22 @@ public final class UndoTest {
             CHECK.holds("call " + call + " changes the state", shop.digest() != before);
             CHECK.due("undo() of call " + call, shop.undo(), 5);
             CHECK.sameState("undo of call " + call, shop, before);
+        }
+    }
+
+    private static void undoOfEachSetting() {
+        for (int number = 0; number <= 10; number++) {
+            FishCounter shop = shopWithFish();
+            long before = shop.digest();
+            int calls = shop.setCut(number, 77) < 0 ? 0 : 1;
+            calls += shop.setPrice(number, 77, 77) < 0 ? 0 : 1;
+            calls += shop.iceBox(number, 77) < 0 ? 0 : 1;
+            calls += shop.iceTray(number, 77) < 0 ? 0 : 1;
+            CHECK.due("calls that are possible", calls, number < 5 ? 4 : number < 6 ? 3 : 1);
+            for (int i = 0; i < calls; i++) {
+                CHECK.due("undo()", shop.undo(), 5 - i);
+            }
+            CHECK.sameState("undo of settings " + number, shop, before);
         }
     }
 
