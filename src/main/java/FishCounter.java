@@ -137,7 +137,7 @@ public final class FishCounter {
         if (moved == null || !isTray(tray)) {
             return NO_SUCH;
         }
-        if (now.lotOnTray(tray) != null) {
+        if (now.indexOnTray(tray) != NONE) {
             return NOT_POSSIBLE;
         }
         history.save(now);
@@ -645,18 +645,18 @@ public final class FishCounter {
             return index == NONE ? null : lots[index];
         }
 
-        Lot lotOnTray(int tray) {
+        int indexOnTray(int tray) {
             for (int i = 0; i < lotCount; i++) {
                 if (lots[i].tray == tray) {
-                    return lots[i];
+                    return i;
                 }
             }
-            return null;
+            return NONE;
         }
 
         int numberOnTray(int tray) {
-            Lot shown = lotOnTray(tray);
-            return shown == null ? NONE : shown.number;
+            int index = indexOnTray(tray);
+            return index == NONE ? NONE : lots[index].number;
         }
 
         int lotsInBox(int box) {
@@ -855,15 +855,15 @@ public final class FishCounter {
 
         int clearTray(int tray) {
             trayIce[tray] = 0;
-            Lot shown = lotOnTray(tray);
-            if (shown == null) {
+            int index = indexOnTray(tray);
+            if (index == NONE) {
                 return 0;
             }
             int box = boxForTheNight();
             if (box == NONE) {
-                return discardLotAt(indexOfLot(shown.number));
+                return discardLotAt(index);
             }
-            shown.putInBox(box);
+            lots[index].putInBox(box);
             return 0;
         }
 

@@ -1,148 +1,148 @@
+import java.util.ArrayList;
+import java.util.List;
+import java.util.function.Supplier;
+
 /** Promises 30 and 31: undo, digest. */
 public final class UndoTest {
     private static final Check CHECK = new Check("UndoTest");
+    private static final List<Supplier<FishCounter>> SHOPS = List.of(FishCounter::new, Shops::stocked,
+            Shops::busy, Shops::full, Shops::withFullBoxAndTray, Shops::withIcyPlaces, Shops::inTheEvening);
 
     public static void main(String[] args) {
-        undoOfEachCall();
-        undoOfEachSetting();
-        undoKeepsSixStates();
+        undoRestoresTheLastState();
         undoGoesOnAfterNewCalls();
-        refusedCallsSaveNothing();
-        askingSavesNothing();
+        undoSkipsRefusedCalls();
+        undoReturnsWhatIsLeft();
+        undoOfMoreCallsThanItKeeps();
+        undoIsRefusedWithoutAState();
+        undoLeavesTheTextAlone();
         digestOfANewShop();
         digestOfFish();
-        digestSeesTheState();
+        digestOfTheSameAnswers();
+        digestOverflows();
+        digestChangesNothing();
         CHECK.finish();
     }
 
-    private static FishCounter shopWithFish() {
-        FishCounter shop = new FishCounter();
-        shop.deliver(0, 1000, 90, 0);
-        shop.deliver(1, 1000, 20, 1);
-        shop.deliver(2, 1000, 80, 2);
-        shop.toTray(3, 0);
-        shop.iceTray(0, 500);
-        shop.iceBox(0, 500);
-        return shop;
-    }
-
-    private static int makeCall(FishCounter shop, int call) {
-        switch (call) {
-            case 0: return shop.setPrice(0, 5000, 300);
-            case 1: return shop.setCut(0, 20);
-            case 2: return shop.setMelting(7, 50);
-            case 3: return shop.deliver(4, 10, 50, 4);
-            case 4: return shop.iceBox(0, 10);
-            case 5: return shop.iceTray(0, 10);
-            case 6: return shop.toTray(1, 1);
-            case 7: return shop.toBox(1, 1);
-            case 8: return shop.divide(1, 10, 5);
-            case 9: return shop.throwAway(1);
-            case 10: return shop.order(2, 10, 0, 9999);
-            case 11: return shop.pass();
-            case 12: return shop.close();
-            default: return deliverOneByText(shop);
+    private static void undoRestoresTheLastState() {
+        CHECK.promise(30, "Restores the state that was saved last, and discards it from the saved states");
+        FishCounter shop = Shops.full();
+        List<List<String>> states = new ArrayList<>();
+        for (int i = 0; i < 6; i++) {
+            states.add(Answers.asked(shop).subList(0, 90));
+            shop.toTray(1, 0);
+            shop.undo();
+            shop.throwAway(16 - i);
         }
-    }
-
-    private static int deliverOneByText(FishCounter shop) {
-        String text = "0:1/1@5";
-        for (int i = 0; i < text.length(); i++) {
-            shop.type(text.charAt(i));
+        for (int i = 5; i >= 0; i--) {
+            shop.undo();
+            CHECK.same("undo() of call " + i, Answers.asked(shop).subList(0, 90), states.get(i));
         }
-        return shop.deliverAll();
-    }
-
-    private static void undoOfEachCall() {
-        for (int call = 0; call <= 13; call++) {
-            FishCounter shop = shopWithFish();
-            long before = shop.digest();
-            CHECK.holds("call " + call + " is possible", makeCall(shop, call) >= 0);
-            CHECK.holds("call " + call + " changes the state", shop.digest() != before);
-            CHECK.due("undo() of call " + call, shop.undo(), 5);
-            CHECK.sameState("undo of call " + call, shop, before);
-        }
-    }
-
-    private static void undoOfEachSetting() {
-        for (int number = 0; number <= 10; number++) {
-            FishCounter shop = shopWithFish();
-            long before = shop.digest();
-            int calls = shop.setCut(number, 77) < 0 ? 0 : 1;
-            calls += shop.setPrice(number, 77, 77) < 0 ? 0 : 1;
-            calls += shop.iceBox(number, 77) < 0 ? 0 : 1;
-            calls += shop.iceTray(number, 77) < 0 ? 0 : 1;
-            CHECK.due("calls that are possible", calls, number < 5 ? 4 : number < 6 ? 3 : 1);
-            for (int i = 0; i < calls; i++) {
-                CHECK.due("undo()", shop.undo(), 5 - i);
-            }
-            CHECK.sameState("undo of settings " + number, shop, before);
-        }
-    }
-
-    private static void undoKeepsSixStates() {
-        FishCounter shop = new FishCounter();
-        for (int i = 1; i <= 8; i++) {
-            CHECK.due("iceBox(0, 1)", shop.iceBox(0, 1), i);
-        }
-        for (int left = 5; left >= 0; left--) {
-            CHECK.due("undo()", shop.undo(), left);
-            CHECK.due("box(0, 0)", shop.box(0, 0), 2 + left);
-        }
-        long before = shop.digest();
-        CHECK.due("undo(), none is saved", shop.undo(), -3);
-        CHECK.sameState("undo refused", shop, before);
     }
 
     private static void undoGoesOnAfterNewCalls() {
+        CHECK.promise(30, "Restores the state that was saved last, and discards it from the saved states");
         FishCounter shop = new FishCounter();
         for (int i = 0; i < 7; i++) {
             shop.iceBox(0, 1);
         }
         shop.undo();
         shop.undo();
-        CHECK.due("box(0, 0)", shop.box(0, 0), 5);
+        CHECK.due("ice after two of seven were undone", shop.box(0, 0), 5);
         shop.iceBox(0, 100);
         CHECK.due("undo()", shop.undo(), 4);
-        CHECK.due("box(0, 0)", shop.box(0, 0), 5);
-        CHECK.due("undo()", shop.undo(), 3);
-        CHECK.due("box(0, 0)", shop.box(0, 0), 4);
+        CHECK.due("ice", shop.box(0, 0), 5);
+        CHECK.due("undo(), the state is not brought back twice", shop.undo(), 3);
+        CHECK.due("ice", shop.box(0, 0), 4);
+        for (int i = 0; i < 10; i++) {
+            shop.iceBox(0, 10);
+            CHECK.due("undo() of one call after another", shop.undo(), 3);
+            CHECK.due("ice", shop.box(0, 0), 4);
+        }
     }
 
-    private static void refusedCallsSaveNothing() {
-        FishCounter shop = new FishCounter();
+    private static void undoSkipsRefusedCalls() {
+        CHECK.promise(30, "Restores the state that was saved last");
+        FishCounter shop = Shops.withLot(0, 10, 50);
+        shop.iceBox(0, 7);
         shop.setPrice(6, 1, 1);
         shop.setCut(11, 1);
         shop.setMelting(501, 1);
         shop.deliver(0, 0, 1, 0);
         shop.iceBox(0, 0);
         shop.iceTray(0, 0);
-        shop.toTray(1, 0);
+        shop.toTray(2, 0);
         shop.toBox(1, 0);
-        shop.divide(1, 1, 0);
-        shop.throwAway(1);
+        shop.divide(1, 10, 0);
+        shop.throwAway(2);
         shop.order(0, 0, 0, 1);
         shop.deliverAll();
-        CHECK.due("undo()", shop.undo(), -3);
+        CHECK.due("undo() of iceBox", shop.undo(), 1);
+        CHECK.due("ice", shop.box(0, 0), 0);
+        CHECK.due("lots", shop.count(2), 1);
+        CHECK.due("undo() of deliver", shop.undo(), 0);
+        CHECK.due("lots", shop.count(2), 0);
     }
 
-    private static void askingSavesNothing() {
-        FishCounter shop = shopWithFish();
-        shop.count(0);
-        shop.lot(1, 0);
-        shop.box(0, 0);
-        shop.tray(0, 0);
-        shop.kind(0, 0);
-        shop.cut(0);
-        shop.freshAfter(1, 5);
-        shop.hoursLeft(1);
-        shop.bestHour(1);
-        shop.ifClosed(5);
-        shop.worth();
-        shop.syntaxError();
-        shop.digest();
-        CHECK.due("undo() of iceBox", shop.undo(), 5);
-        CHECK.due("box(0, 0)", shop.box(0, 0), 0);
+    private static void undoReturnsWhatIsLeft() {
+        CHECK.promise(30, "Returns the number of saved states that are left");
+        for (int calls = 1; calls <= 6; calls++) {
+            FishCounter shop = new FishCounter();
+            for (int i = 0; i < calls; i++) {
+                shop.iceBox(0, 1);
+            }
+            for (int left = calls - 1; left >= 0; left--) {
+                CHECK.due("undo() of " + calls + " calls", shop.undo(), left);
+                CHECK.due("ice", shop.box(0, 0), left);
+            }
+        }
+    }
+
+    private static void undoOfMoreCallsThanItKeeps() {
+        CHECK.promise(30, "Returns the number of saved states that are left");
+        for (int calls = 7; calls <= 20; calls++) {
+            FishCounter shop = new FishCounter();
+            for (int i = 0; i < calls; i++) {
+                shop.iceBox(0, 1);
+            }
+            for (int left = 5; left >= 0; left--) {
+                CHECK.due("undo() of " + calls + " calls", shop.undo(), left);
+                CHECK.due("ice", shop.box(0, 0), calls - 6 + left);
+            }
+            CHECK.due("undo() of the seventh before", shop.undo(), Check.NOT_POSSIBLE);
+            CHECK.due("ice", shop.box(0, 0), calls - 6);
+        }
+    }
+
+    private static void undoIsRefusedWithoutAState() {
+        CHECK.promise(30, "NOT_POSSIBLE if no state is saved");
+        CHECK.notPossible("of a new shop", FishCounter::new, shop -> shop.undo());
+        CHECK.notPossible("of a new shop with a text", () -> Shops.withText("0:1/1@0"), shop -> shop.undo());
+        CHECK.notPossible("when all are undone", () -> {
+            FishCounter shop = Shops.busy();
+            for (int i = 0; i < 6; i++) {
+                shop.undo();
+            }
+            return shop;
+        }, shop -> shop.undo());
+        FishCounter shop = new FishCounter();
+        for (int i = 0; i < 10; i++) {
+            CHECK.due("again and again", shop.undo(), Check.NOT_POSSIBLE);
+        }
+        shop.iceBox(0, 1);
+        CHECK.due("after a call", shop.undo(), 0);
+    }
+
+    private static void undoLeavesTheTextAlone() {
+        CHECK.promise(30, "Restores the state that was saved last");
+        FishCounter shop = Shops.withText("0:1/1@0");
+        shop.iceBox(0, 1);
+        Shops.typeText(shop, ";0:1/1@1");
+        shop.undo();
+        CHECK.due("the text keeps what was typed since", shop.clearText(), 15);
+        shop.iceBox(0, 1);
+        shop.undo();
+        CHECK.due("the text stays cleared", shop.clearText(), 0);
     }
 
     private static long hashOf(long[] values) {
@@ -154,6 +154,7 @@ public final class UndoTest {
     }
 
     private static void digestOfANewShop() {
+        CHECK.promise(31, "The hash starts at 186");
         long[] values = {
             0, 0, 0, 0, 0, 0, 0, 0, 0, 100, 30,
             0, 0, 0, -6, 0, 0, 0, -6, 0, 0, 0, -6, 0, 0, 0, -6, 0, 0, 0, -6, 0, 0, 0, -6,
@@ -167,6 +168,7 @@ public final class UndoTest {
     }
 
     private static void digestOfFish() {
+        CHECK.promise(31, "Computes a hash of the state");
         FishCounter shop = new FishCounter();
         shop.deliver(1, 2000, 100, 5);
         shop.deliver(1, 100, 29, 5);
@@ -190,11 +192,79 @@ public final class UndoTest {
             2160 + 427,
         };
         CHECK.due("digest()", shop.digest(), hashOf(values));
+        CHECK.promise(31, "Returns the hash");
+        CHECK.due("digest() once more", shop.digest(), hashOf(values));
     }
 
-    private static void digestSeesTheState() {
-        FishCounter shop = shopWithFish();
-        CHECK.due("the same calls, the same digest", shop.digest(), shopWithFish().digest());
-        CHECK.due("asked twice", shop.digest(), shop.digest());
+    /** The list of the document, asked from the shop itself. */
+    private static long[] answersOf(FishCounter shop) {
+        List<Long> list = new ArrayList<>();
+        for (int what = 0; what <= 10; what++) {
+            list.add(shop.count(what));
+        }
+        for (int lot = 1; lot <= 40; lot++) {
+            if (shop.lot(lot, 0) != Check.NO_SUCH) {
+                list.add((long) lot);
+                addRow(list, shop, 0, lot, 7);
+                list.add((long) shop.hoursLeft(lot));
+                list.add((long) shop.bestHour(lot));
+            }
+        }
+        int[] members = {0, 6, 5, 6};
+        int[] numbers = {0, 4, 2, 4};
+        for (int row = 1; row <= 3; row++) {
+            for (int member = 0; member < members[row]; member++) {
+                addRow(list, shop, row, member, numbers[row]);
+            }
+        }
+        for (int hour = 0; hour <= 10; hour++) {
+            list.add((long) shop.cut(hour));
+        }
+        list.add(shop.worth());
+        return list.stream().mapToLong(value -> value).toArray();
+    }
+
+    private static void addRow(List<Long> list, FishCounter shop, int row, int member, int numbers) {
+        for (int what = 0; what < numbers; what++) {
+            int answer = row == 0 ? shop.lot(member, what) : row == 1 ? shop.box(member, what)
+                    : row == 2 ? shop.tray(member, what) : shop.kind(member, what);
+            list.add((long) answer);
+        }
+    }
+
+    private static void digestOfTheSameAnswers() {
+        CHECK.promise(31, "The list is: count(0) to count(10); for each lot, by ascending numbers, its number,"
+                + " its numbers 0 to 6, hoursLeft() and bestHour(); for each box its numbers 0 to 3;"
+                + " for each tray its numbers 0 and 1; for each kind its numbers 0 to 3; cut(0) to cut(10); worth()");
+        for (Supplier<FishCounter> made : SHOPS) {
+            FishCounter shop = made.get();
+            CHECK.due("digest()", shop.digest(), hashOf(answersOf(shop)));
+        }
+        FishCounter shop = Shops.full();
+        for (int i = 0; i < 8; i++) {
+            shop.throwAway(15 - 2 * i);
+            shop.divide(16, 3 + i, 5);
+            shop.toTray(16, i % 5);
+            shop.toTray(2 + i, (i + 1) % 5);
+            CHECK.due("digest() with gaps in the numbers", shop.digest(), hashOf(answersOf(shop)));
+        }
+    }
+
+    private static void digestOverflows() {
+        CHECK.promise(31, "For each value v of the following list, in order, the hash becomes 31 * hash + v,"
+                + " in long arithmetic with overflow");
+        FishCounter shop = new FishCounter();
+        shop.setPrice(0, 9999, 9999);
+        for (int i = 0; i < 16; i++) {
+            shop.deliver(0, 20000, 100, i / 3);
+            CHECK.due("digest()", shop.digest(), hashOf(answersOf(shop)));
+        }
+    }
+
+    private static void digestChangesNothing() {
+        CHECK.promise(31, "Computes a hash of the state");
+        for (Supplier<FishCounter> made : SHOPS) {
+            CHECK.changesNothing("digest()", made, shop -> shop.digest());
+        }
     }
 }
