@@ -248,8 +248,9 @@ public final class TextTest {
         CHECK.due("undo(): clearText() saved nothing", shop.undo(), Check.NOT_POSSIBLE);
         CHECK.due("the text stays empty", shop.clearText(), 0);
         CHECK.promise(28, "Finds the first syntax error of the text");
-        CHECK.changesNothing("syntaxError() of a delivery", Shops::busy, asked -> asked.syntaxError());
-        CHECK.changesNothing("syntaxError() of no text", FishCounter::new, asked -> asked.syntaxError());
-        CHECK.changesNothing("syntaxError() of an error", () -> Shops.withText("0:5/9@7"), asked -> asked.syntaxError());
+        for (String text : new String[] {"", "0:5/9@", "0:5/9@1", "0:5/9@7"}) {
+            CHECK.changesNothing("syntaxError() of " + text, () -> Shops.withText(text), made -> made.syntaxError());
+        }
+        CHECK.changesNothing("syntaxError() in a busy shop", Shops::busy, made -> made.syntaxError());
     }
 }
