@@ -44,6 +44,11 @@ final class Check {
         begin("Terms", words);
     }
 
+    /** The same for a sentence of another section, such as "What it is". */
+    void section(String name, String words) {
+        begin(name, words);
+    }
+
     private void begin(String section, String words) {
         endSentence();
         sentence = section + ", \"" + words + "\": ";

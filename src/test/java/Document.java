@@ -36,14 +36,26 @@ final class Document {
         }
     }
 
-    /** "Terms", "Promise 1", "Promise 2" and so on. */
+    /** "What it is", "Terms", "Promise 1", "Promise 2" and so on. */
     Set<String> sections() {
         return linesOfSection.keySet();
     }
 
+    List<String> lines(String section) {
+        return linesOfSection.getOrDefault(section, List.of());
+    }
+
+    /** The lines of the Java text in a section. */
+    List<String> code(String section) {
+        List<String> lines = lines(section);
+        int begin = lines.indexOf("```java");
+        int end = lines.indexOf("```");
+        return begin >= 0 && end > begin ? lines.subList(begin + 1, end) : List.of();
+    }
+
     /** Whether the words stand in the section, and do not begin or end within a word. */
     boolean says(String section, String words) {
-        String text = String.join(" ", linesOfSection.getOrDefault(section, List.of()));
+        String text = String.join(" ", lines(section));
         String whole = "(?<!\\w)" + Pattern.quote(words) + "(?!\\w)";
         return !words.isEmpty() && Pattern.compile(whole).matcher(text).find();
     }
@@ -51,7 +63,7 @@ final class Document {
     /** The sentences of a section; parts between semicolons count as sentences of their own. */
     List<String> sentences(String section) {
         List<String> sentences = new ArrayList<>();
-        for (String line : linesOfSection.getOrDefault(section, List.of())) {
+        for (String line : lines(section)) {
             String words = SIGNATURE.matcher(line.replaceFirst("^- ", "")).replaceFirst("");
             for (String part : words.split("(?<=[.;])\\s+")) {
                 sentences.add(part.replaceFirst("[.;]$", ""));

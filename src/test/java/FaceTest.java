@@ -5,31 +5,41 @@ import java.lang.reflect.Method;
 import java.lang.reflect.Modifier;
 import java.nio.file.Files;
 import java.nio.file.Path;
-import java.util.Arrays;
+import java.util.ArrayList;
 import java.util.List;
 import java.util.Set;
 import java.util.TreeSet;
 import java.util.regex.Matcher;
 import java.util.regex.Pattern;
 
-/** The public face of the document, and the rules of LANGUAGE.md that a look at the class or its text can tell. */
+/** The section "The public face", and the rules of LANGUAGE.md that a look at the class or its text can tell. */
 public final class FaceTest {
     private static final Check CHECK = new Check("FaceTest");
-    private static final List<String> METHODS = List.of(
-            "int setPrice(3)", "int setCut(2)", "int setMelting(2)", "int deliver(4)",
-            "int iceBox(2)", "int iceTray(2)", "int toTray(2)", "int toBox(2)", "int divide(3)",
-            "int throwAway(1)", "int order(4)", "int pass(0)", "int close(0)", "long count(1)",
-            "int lot(2)", "int box(2)", "int tray(2)", "int kind(2)", "int cut(1)",
-            "int freshAfter(2)", "int hoursLeft(1)", "int bestHour(1)", "int ifClosed(1)",
-            "long worth(0)", "int type(1)", "int clearText(0)", "int syntaxError(0)",
-            "int deliverAll(0)", "int undo(0)", "long digest(0)");
+    private static final Document DOCUMENT = new Document();
+    private static final Pattern HEADING =
+            Pattern.compile("Ahead of the calls ([^:]*) the interface says: (---- .*)\\.");
+    private static final int LONGEST_METHOD = 60;
+
+    private final List<String> lines;
+    private final String code;
+
+    private FaceTest(String source) {
+        lines = source.lines().toList();
+        code = source.replaceAll("(?s)/\\*.*?\\*/", "").replaceAll("//[^\n]*", "");
+    }
 
     public static void main(String[] args) throws IOException {
+        FaceTest test = new FaceTest(Files.readString(Path.of("src/main/java/FishCounter.java")));
         constantsAreThoseOfTheDocument();
-        methodsAreThoseOfTheDocument();
+        test.sourceHasEachLineOfTheFace();
+        test.headingsStandAheadOfTheirCalls();
         noOtherMemberIsSeenFromOutside();
+        privateNamesAreNotThoseOfCalls();
+        objectsShareNothing();
+        objectsLeaveFreeWhatIsFree();
         innerClassesAreFew();
-        sourceKeepsToTheLanguage();
+        test.sourceKeepsToTheLanguage();
+        test.methodsAreShort();
         CHECK.finish();
     }
 
@@ -42,28 +52,39 @@ public final class FaceTest {
         CHECK.due("NONE", FishCounter.NONE, -6);
     }
 
-    private static void methodsAreThoseOfTheDocument() {
-        Set<String> found = new TreeSet<>();
-        Set<String> publicNames = new TreeSet<>();
-        for (Method method : FishCounter.class.getDeclaredMethods()) {
-            if (Modifier.isPublic(method.getModifiers())) {
-                found.add(method.getReturnType() + " " + method.getName() + "(" + method.getParameterCount() + ")");
-                publicNames.add(method.getName());
-                for (Class<?> type : method.getParameterTypes()) {
-                    CHECK.holds(method + " takes ints", type == int.class);
-                }
+    /** With the types and the names of the parameters. */
+    private void sourceHasEachLineOfTheFace() {
+        List<String> due = new ArrayList<>();
+        for (String line : DOCUMENT.code("The public face")) {
+            if (!line.equals("}")) {
+                due.add(line.replaceFirst("\\);$", ") {"));
             }
         }
-        CHECK.holds("the methods are " + METHODS, found.equals(new TreeSet<>(METHODS)));
-        for (Method method : FishCounter.class.getDeclaredMethods()) {
-            boolean bearsPublicName = publicNames.contains(method.getName());
-            CHECK.holds(method + ": rule 1, names", bearsPublicName == Modifier.isPublic(method.getModifiers()));
-        }
-        for (Class<?> inner : FishCounter.class.getDeclaredClasses()) {
-            for (Method method : inner.getDeclaredMethods()) {
-                CHECK.holds(method + ": rule 1, names", !publicNames.contains(method.getName()));
+        CHECK.due("the class, its constants, its constructor, its calls", due.size(), 1 + 6 + 1 + 30);
+        List<String> got = lines.stream().map(String::strip).filter(line -> line.startsWith("public ")).toList();
+        CHECK.same("lines that begin with public", got, due);
+    }
+
+    private void headingsStandAheadOfTheirCalls() {
+        List<String> due = new ArrayList<>();
+        for (String line : DOCUMENT.lines("Terms")) {
+            Matcher heading = HEADING.matcher(line);
+            if (heading.matches()) {
+                due.add("// " + heading.group(2));
+                due.addAll(List.of(heading.group(1).replace("`", "").split(", ")));
             }
         }
+        CHECK.due("headings and calls of the document", due.size(), 7 + 30);
+        List<String> got = new ArrayList<>();
+        for (String line : lines) {
+            Matcher call = Pattern.compile("    public (?:int|long) (\\w+)\\(.*").matcher(line);
+            if (line.startsWith("    // ----")) {
+                got.add(line.strip());
+            } else if (call.matches()) {
+                got.add(call.group(1));
+            }
+        }
+        CHECK.same("headings and calls", got, due);
     }
 
     private static void noOtherMemberIsSeenFromOutside() {
@@ -75,8 +96,8 @@ public final class FaceTest {
                         == (Modifier.PUBLIC | Modifier.STATIC | Modifier.FINAL) && field.getType() == int.class);
             }
         }
-        CHECK.holds("the constants are six", constants.equals(new TreeSet<>(Arrays.asList(
-                "NO_SUCH", "BAD_VALUE", "NOT_POSSIBLE", "LIMIT", "BAD_TEXT", "NONE"))));
+        CHECK.holds("the constants are six", constants.equals(Set.of(
+                "NO_SUCH", "BAD_VALUE", "NOT_POSSIBLE", "LIMIT", "BAD_TEXT", "NONE")));
         for (Method method : FishCounter.class.getDeclaredMethods()) {
             int seen = method.getModifiers() & (Modifier.PUBLIC | Modifier.PRIVATE);
             CHECK.holds(method + " is public or private", seen != 0);
@@ -88,6 +109,48 @@ public final class FaceTest {
         CHECK.holds("the class is final", Modifier.isFinal(FishCounter.class.getModifiers()));
     }
 
+    private static void privateNamesAreNotThoseOfCalls() {
+        Set<String> publicNames = new TreeSet<>();
+        for (Method method : FishCounter.class.getDeclaredMethods()) {
+            if (Modifier.isPublic(method.getModifiers())) {
+                publicNames.add(method.getName());
+            }
+        }
+        List<Method> others = new ArrayList<>(List.of(FishCounter.class.getDeclaredMethods()));
+        others.removeIf(method -> Modifier.isPublic(method.getModifiers()));
+        for (Class<?> inner : FishCounter.class.getDeclaredClasses()) {
+            others.addAll(List.of(inner.getDeclaredMethods()));
+        }
+        for (Method method : others) {
+            CHECK.holds(method + ": rule 1, names", !publicNames.contains(method.getName()));
+            CHECK.holds(method + ": rule 11, parameters", method.getParameterCount() <= 7);
+        }
+    }
+
+    /** So that two threads may use an object each. */
+    private static void objectsShareNothing() {
+        CHECK.section("Not promised", "Use of one object from several threads at once is not promised to be safe");
+        List<Class<?>> classes = new ArrayList<>(List.of(FishCounter.class.getDeclaredClasses()));
+        classes.add(FishCounter.class);
+        for (Class<?> one : classes) {
+            for (Field field : one.getDeclaredFields()) {
+                boolean isShared = Modifier.isStatic(field.getModifiers());
+                boolean isConstant = Modifier.isFinal(field.getModifiers()) && field.getType().isPrimitive();
+                CHECK.holds(field + ": rule 5, static state", !isShared || isConstant);
+            }
+        }
+    }
+
+    private static void objectsLeaveFreeWhatIsFree() {
+        CHECK.section("Not promised", "How the state is held inside the object is free, as are the speed of each call,"
+                + " the text of toString and the behaviour of equals and hashCode");
+        for (Method method : FishCounter.class.getMethods()) {
+            if (Set.of("toString", "equals", "hashCode").contains(method.getName())) {
+                CHECK.holds(method + ": rule 6", method.getDeclaringClass() == Object.class);
+            }
+        }
+    }
+
     private static void innerClassesAreFew() {
         Class<?>[] inner = FishCounter.class.getDeclaredClasses();
         CHECK.holds("rule 11, classes", inner.length < 12);
@@ -97,8 +160,7 @@ public final class FaceTest {
         }
     }
 
-    private static void sourceKeepsToTheLanguage() throws IOException {
-        String code = codeWithoutComments(Files.readString(Path.of("src/main/java/FishCounter.java")));
+    private void sourceKeepsToTheLanguage() {
         String[] outside = {"throw", "try", "catch", "synchronized", "assert", "import", "package", "instanceof",
             "Object", "System.out", "toString", "hashCode", "Exact", "var"};
         for (String word : outside) {
@@ -121,7 +183,17 @@ public final class FaceTest {
                 Set.of("Math.max", "Math.min", "System.arraycopy").containsAll(library));
     }
 
-    private static String codeWithoutComments(String source) {
-        return source.replaceAll("(?s)/\\*.*?\\*/", "").replaceAll("//[^\n]*", "");
+    private void methodsAreShort() {
+        int methods = 0;
+        int begin = 0;
+        for (int i = 0; i < lines.size(); i++) {
+            if (lines.get(i).matches(" {4}(?: {4})?[^ /*@}][^=]*\\(.*\\{") && !lines.get(i).strip().startsWith("if")) {
+                methods++;
+                begin = i;
+            } else if (lines.get(i).matches(" {4}(?: {4})?\\}")) {
+                CHECK.holds("rule 11, a short method: " + lines.get(begin), i - begin < LONGEST_METHOD);
+            }
+        }
+        CHECK.holds("methods are found: " + methods, methods > 60);
     }
 }

@@ -166,9 +166,9 @@ public final class ForecastTest {
     private static void hoursLeftAgreesWithFreshAfter() {
         CHECK.promise(22, "Tells for how many hours a lot would still be at or above the limit, in the same way");
         for (int limit = 0; limit <= 100; limit++) {
-            FishCounter shop = Shops.stocked();
-            shop.setMelting(20, limit);
             for (int lot = 1; lot <= 5; lot++) {
+                FishCounter shop = Shops.stocked();
+                shop.setMelting(20, limit);
                 int left = Check.NONE;
                 for (int hours = 0; hours <= 100; hours++) {
                     left = shop.freshAfter(lot, hours) >= limit ? hours : left;

@@ -50,24 +50,25 @@ public final class ModelTest {
         CHECK.due(name + calls + ": " + call, got, want);
     }
 
-    /** Mostly in the range, with its ends more often than the rest, sometimes just outside. */
+    /** Mostly in the range, with its ends more often than the rest, sometimes just or far outside. */
     private int near(int least, int most) {
         switch (random.nextInt(24)) {
-            case 0: return least - 1;
-            case 1: return most + 1;
+            case 0: return random.nextInt(4) > 0 ? least - 1 : Integer.MIN_VALUE + random.nextInt(2);
+            case 1: return random.nextInt(4) > 0 ? most + 1 : Integer.MAX_VALUE - random.nextInt(2);
             case 2: return least;
             case 3: return most;
             default: return least + random.nextInt(most - least + 1);
         }
     }
 
+    /** Looked up in the plain shop, so that the other one has no more than its 512 calls. */
     private int someLot() {
-        int lots = (int) shop.count(2);
+        int lots = (int) plain.count(2);
         int number = 0;
         int skip = lots == 0 ? 0 : random.nextInt(lots);
         while (lots > 0 && number < 600) {
             number++;
-            if (shop.lot(number, 0) != -1 && skip-- == 0) {
+            if (plain.lot(number, 0) != -1 && skip-- == 0) {
                 return number;
             }
         }

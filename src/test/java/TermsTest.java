@@ -92,6 +92,7 @@ public final class TermsTest {
             CHECK.due("close()", shop.close(), 0);
             CHECK.due("the hour of the next day", shop.count(1), 0);
         }
+        // The day 999 is more than 512 calls away, so this asks for more than is promised.
         CHECK.terms("The current day is at most 999");
         FishCounter old = new FishCounter();
         for (int call = 0; call < 1005; call++) {

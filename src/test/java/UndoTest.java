@@ -26,18 +26,24 @@ public final class UndoTest {
 
     private static void undoRestoresTheLastState() {
         CHECK.promise(30, "Restores the state that was saved last, and discards it from the saved states");
+        for (int calls = 6; calls >= 0; calls--) {
+            FishCounter shop = withLotsThrownAway(6);
+            for (int i = calls; i < 6; i++) {
+                shop.undo();
+            }
+            List<String> due = Answers.asked(withLotsThrownAway(calls));
+            CHECK.same("undo() down to call " + calls, Answers.asked(shop), due);
+        }
+    }
+
+    private static FishCounter withLotsThrownAway(int lots) {
         FishCounter shop = Shops.full();
-        List<List<String>> states = new ArrayList<>();
-        for (int i = 0; i < 6; i++) {
-            states.add(Answers.asked(shop).subList(0, 90));
+        for (int i = 0; i < lots; i++) {
             shop.toTray(1, 0);
             shop.undo();
             shop.throwAway(16 - i);
         }
-        for (int i = 5; i >= 0; i--) {
-            shop.undo();
-            CHECK.same("undo() of call " + i, Answers.asked(shop).subList(0, 90), states.get(i));
-        }
+        return shop;
     }
 
     private static void undoGoesOnAfterNewCalls() {
@@ -240,12 +246,14 @@ public final class UndoTest {
             FishCounter shop = made.get();
             CHECK.due("digest()", shop.digest(), hashOf(answersOf(shop)));
         }
-        FishCounter shop = Shops.full();
-        for (int i = 0; i < 8; i++) {
-            shop.throwAway(15 - 2 * i);
-            shop.divide(16, 3 + i, 5);
-            shop.toTray(16, i % 5);
-            shop.toTray(2 + i, (i + 1) % 5);
+        for (int changes = 1; changes <= 8; changes++) {
+            FishCounter shop = Shops.full();
+            for (int i = 0; i < changes; i++) {
+                shop.throwAway(15 - 2 * i);
+                shop.divide(16, 3 + i, 5);
+                shop.toTray(16, i % 5);
+                shop.toTray(2 + i, (i + 1) % 5);
+            }
             CHECK.due("digest() with gaps in the numbers", shop.digest(), hashOf(answersOf(shop)));
         }
     }
@@ -253,11 +261,13 @@ public final class UndoTest {
     private static void digestOverflows() {
         CHECK.promise(31, "For each value v of the following list, in order, the hash becomes 31 * hash + v,"
                 + " in long arithmetic with overflow");
-        FishCounter shop = new FishCounter();
-        shop.setPrice(0, 9999, 9999);
-        for (int i = 0; i < 16; i++) {
-            shop.deliver(0, 20000, 100, i / 3);
-            CHECK.due("digest()", shop.digest(), hashOf(answersOf(shop)));
+        for (int lots = 0; lots <= 16; lots++) {
+            FishCounter shop = new FishCounter();
+            shop.setPrice(0, 9999, 9999);
+            for (int i = 0; i < lots; i++) {
+                shop.deliver(0, 20000, 100, i / 3);
+            }
+            CHECK.due("digest() of " + lots + " lots", shop.digest(), hashOf(answersOf(shop)));
         }
     }
 
